@@ -265,7 +265,7 @@ public final class RasterForge {
 
         private static int ofHalf(double v) {
             double size = v < 0 ? -v : v;
-            int b = size >= 65520
+            int b = size >= 65520.0
                     ? HALF_GREATEST
                     : nearest(size, HALF_ONE, HALF_BIAS, HALF_TOP);
             return v < 0 && b != 0 ? b + HALF_SIGN : b;
@@ -411,9 +411,14 @@ public final class RasterForge {
             return Math.min(first + linesOfChunk(scheme), height);
         }
 
+        int chunks(int scheme) {
+            return linesOfChunk(scheme) == 1 ? height : (height + TALL_CHUNK - 1) / TALL_CHUNK;
+        }
+
         int rawSize(int first, int scheme) {
             int size = 0;
-            for (int y = first; y < endOfChunk(first, scheme); y++) {
+            int end = endOfChunk(first, scheme);
+            for (int y = first; y < end; y++) {
                 for (int c = 0; c < channels; c++) {
                     if (isOnStep(c, y)) {
                         size += columns(c) * bytesOfSample(types[c], scheme);
@@ -424,7 +429,8 @@ public final class RasterForge {
         }
 
         boolean holdsNumbers(int first, int scheme) {
-            for (int y = first; y < endOfChunk(first, scheme); y++) {
+            int end = endOfChunk(first, scheme);
+            for (int y = first; y < end; y++) {
                 for (int c = 0; c < channels; c++) {
                     for (int x = 0; x < width; x++) {
                         if (hasSample(c, x, y) && !Sample.isNumber(types[c], at(c, x, y))) {
@@ -678,30 +684,29 @@ public final class RasterForge {
             return raw;
         }
 
-        /** Takes bytes that are not packed. */
-        void takeRaw(Bytes from, int start, Picture to, int scheme, int first) {
+        /** Makes the bytes of a chunk ready, packed ones if they are fewer: where they fail. */
+        int makeReady(Bytes from, int start, int end, int wanted) {
+            if (end - start < wanted) {
+                return packer.unpack(from, start, end, wanted, raw);
+            }
             raw.clear();
-            raw.addPart(from, start, start + to.rawSize(first, scheme));
-            takeLines(to, scheme, first, false);
+            raw.addPart(from, start, end);
+            return NO_FAULT;
         }
 
-        /** Makes ready the bytes that were packed: where they have a fault. */
-        int unpack(Bytes from, int start, int end, int wanted) {
-            return packer.unpack(from, start, end, wanted, raw);
-        }
-
-        /** Takes the bytes that unpack has made ready. */
-        void takeUnpacked(Picture to, int scheme, int first) {
-            if (scheme == WAVES) {
+        /** Takes the samples of the bytes that are ready. */
+        void takeReady(Picture to, int scheme, int first, boolean werePacked) {
+            if (werePacked && scheme == WAVES) {
                 takeTables(to, first);
             } else {
-                takeLines(to, scheme, first, scheme == CUTTING);
+                takeLines(to, scheme, first, werePacked && scheme == CUTTING);
             }
         }
 
         private void putLines(Picture from, int scheme, int first, boolean differences) {
             raw.clear();
-            for (int y = first; y < from.endOfChunk(first, scheme); y++) {
+            int end = from.endOfChunk(first, scheme);
+            for (int y = first; y < end; y++) {
                 for (int c = 0; c < from.channels; c++) {
                     if (from.isOnStep(c, y)) {
                         putLine(from, c, y, scheme, differences);
@@ -712,8 +717,9 @@ public final class RasterForge {
 
         private void putLine(Picture from, int c, int y, int scheme, boolean differences) {
             int bytes = bytesOfSample(from.types[c], scheme);
+            int columns = from.columns(c);
             int before = 0;
-            for (int k = 0; k < from.columns(c); k++) {
+            for (int k = 0; k < columns; k++) {
                 int b = from.at(c, k * from.steps[c], y);
                 int number = bytes == 3 ? Sample.shorten(b) : b;
                 // Only the lower bytes are written, which is the difference's modulus.
@@ -723,7 +729,8 @@ public final class RasterForge {
         }
 
         private void takeLines(Picture to, int scheme, int first, boolean differences) {
-            for (int y = first; y < to.endOfChunk(first, scheme); y++) {
+            int end = to.endOfChunk(first, scheme);
+            for (int y = first; y < end; y++) {
                 for (int c = 0; c < to.channels; c++) {
                     if (to.isOnStep(c, y)) {
                         takeLine(to, c, y, scheme, differences);
@@ -734,8 +741,9 @@ public final class RasterForge {
 
         private void takeLine(Picture to, int c, int y, int scheme, boolean differences) {
             int bytes = bytesOfSample(to.types[c], scheme);
+            int columns = to.columns(c);
             int before = 0;
-            for (int k = 0; k < to.columns(c); k++) {
+            for (int k = 0; k < columns; k++) {
                 int number = raw.nextNumber(bytes) + (differences ? before : 0);
                 before = number;
                 if (bytes == 2) {
@@ -809,15 +817,14 @@ public final class RasterForge {
         void write(Picture from, int scheme, Bytes to, Coder coder) {
             to.clear();
             writeHead(from, scheme, to);
-            int lines = linesOfChunk(scheme);
-            int entry = to.length;
-            for (int first = 0; first < from.height; first += lines) {
-                to.addNumber(0, 2);
-            }
-            for (int first = 0; first < from.height; first += lines) {
-                to.change(entry, to.length);
-                to.change(entry + 1, to.length >>> 8);
-                entry += 2;
+            int chunks = from.chunks(scheme);
+            int table = to.length;
+            // The offsets are known only when the chunks are written.
+            to.addNumber(0, 2 * chunks);
+            for (int k = 0; k < chunks; k++) {
+                to.change(table + 2 * k, to.length);
+                to.change(table + 2 * k + 1, to.length >>> 8);
+                int first = k * linesOfChunk(scheme);
                 Bytes made = coder.make(from, scheme, first);
                 to.add(first);
                 to.addNumber(made.length, 2);
@@ -860,7 +867,8 @@ public final class RasterForge {
             if (!readHead(to) || !readChannels(to) || !readTable(to)) {
                 return false;
             }
-            for (int first = 0; first < to.height; first += linesOfChunk(scheme)) {
+            int lines = linesOfChunk(scheme);
+            for (int first = 0; first < to.height; first += lines) {
                 if (!readChunk(first, to, coder)) {
                     return false;
                 }
@@ -900,10 +908,10 @@ public final class RasterForge {
         }
 
         private boolean readTable(Picture to) {
-            int lines = linesOfChunk(scheme);
-            int due = place + 2 * ((to.height + lines - 1) / lines);
-            for (int first = 0; first < to.height; first += lines) {
-                if (isMissing(2)) {
+            int chunks = to.chunks(scheme);
+            int due = place + 2 * chunks;
+            for (int k = 0; k < chunks; k++) {
+                if (lacks(2)) {
                     return false;
                 }
                 if (due >= 0 && source.twoAt(place) != due) {
@@ -915,18 +923,18 @@ public final class RasterForge {
             return true;
         }
 
-        /** The offset behind the chunk that begins at one, -1 if it is not wholly there. */
+        /**
+         * The offset behind the chunk that begins at one, -1 if it is not wholly there. A size
+         * that is missing reads as 0, and the end lies behind the file all the same.
+         */
         private int behindChunk(int start) {
-            if (start + 3 > source.length) {
-                return -1;
-            }
             int end = start + 3 + source.twoAt(start + 1);
             return end > source.length ? -1 : end;
         }
 
         private boolean readChunk(int first, Picture to, Coder coder) {
             int start = place;
-            if (!nextIs(first, first) || isMissing(2)) {
+            if (!nextIs(first, first) || lacks(2)) {
                 return false;
             }
             int size = source.twoAt(place);
@@ -935,25 +943,21 @@ public final class RasterForge {
                 return failsAt(place);
             }
             place += 2;
-            if (isMissing(size)) {
+            if (lacks(size)) {
                 return false;
             }
-            int body = place;
-            place += size;
-            if (size == wanted) {
-                coder.takeRaw(source, body, to, scheme, first);
-                return to.holdsNumbers(first, scheme) || failsAt(start);
-            }
-            int bad = coder.unpack(source, body, place, wanted);
+            int bad = coder.makeReady(source, place, place + size, wanted);
             if (bad != NO_FAULT) {
                 return failsAt(bad);
             }
-            coder.takeUnpacked(to, scheme, first);
+            place += size;
+            coder.takeReady(to, scheme, first, size < wanted);
             return to.holdsNumbers(first, scheme) || failsAt(start);
         }
 
+        /** Goes behind the next byte if it lies between two bounds, else it is a fault. */
         private boolean nextIs(int least, int most) {
-            if (isMissing(1)) {
+            if (lacks(1)) {
                 return false;
             }
             int b = source.at(place);
@@ -972,8 +976,13 @@ public final class RasterForge {
             return good;
         }
 
-        private boolean isMissing(int bytes) {
-            return place + bytes > source.length && !failsAt(source.length);
+        /** Whether so many bytes are not there, which is a fault behind the last one. */
+        private boolean lacks(int bytes) {
+            if (place + bytes <= source.length) {
+                return false;
+            }
+            fault = source.length;
+            return true;
         }
 
         /** Answers false always, so that a reading step can end with it. */

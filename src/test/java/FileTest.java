@@ -14,6 +14,7 @@ public final class FileTest {
         cutDifferences();
         waves();
         tallChunks();
+        greatestChunk();
         encodeRefused();
         file();
         patch();
@@ -154,8 +155,31 @@ public final class FileTest {
         // Four lines and two; the channels take turns in each line.
         for (int scheme = 2; scheme <= 3; scheme++) {
             f.encode(scheme);
-            holds("the second chunk of scheme " + scheme, f, f.file(17), 4, 6, 0, 0, 0, 3, 0, 0, 60);
+            holds("the second chunk by " + scheme, f, f.file(17), 4, 6, 0, 0, 0, 3, 0, 0, 60);
         }
+    }
+
+    /** 384 bytes, which no scheme makes fewer where all are unlike. */
+    private static void greatestChunk() {
+        RasterForge f = picture(8, 4, 97, 1, 1, 98, 1, 1, 99, 1, 1);
+        CHECKS.due("384 zeros: length", 18 + 2 + 3 + 8, () -> f.encode(2));
+        holds("288 cut zeros", f, 20, 0, 8, 0, 255, 0, 127, 128, 127, 128, 30, 128);
+        for (int k = 0; k < 96; k++) {
+            f.set(k / 32, k % 8, k / 8 % 4, (k * k * 7919 % 1000 + 1) * Math.pow(0.37, k % 50));
+        }
+        double last = f.get(2, 7, 3);
+        int bits = f.bits(2, 7, 3);
+        CHECKS.due("384 unlike bytes: length", 18 + 2 + 3 + 384, () -> f.encode(3));
+        holds("384 unlike bytes", f, 403, bits & 255, bits >> 8 & 255, bits >> 16 & 255,
+                bits >>> 24);
+        CHECKS.due("384 unlike bytes: read", 3, f::decode);
+        CHECKS.due("the last of 96 samples", last, () -> f.get(2, 7, 3));
+        for (int k = 0; k < 80; k++) {
+            f.set(k / 32, k % 8, k / 8 % 4, 0);
+        }
+        f.encode(3);
+        CHECKS.due("384 bytes packed: read", 3, f::decode);
+        CHECKS.due("the last sample, packed", last, () -> f.get(2, 7, 3));
     }
 
     private static void encodeRefused() {

@@ -511,8 +511,8 @@ final class Model {
         }
         for (Plane p : planes) {
             for (int y = from; y < to; y++) {
-                if (y % p.step == 0
-                        && Arrays.stream(p.samples[y / p.step]).anyMatch(b -> noNumber(p.type, b))) {
+                int[] line = y % p.step == 0 ? p.samples[y / p.step] : new int[0];
+                if (Arrays.stream(line).anyMatch(b -> noNumber(p.type, b))) {
                     throw new Fault(at, false);
                 }
             }
