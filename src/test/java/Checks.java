@@ -6,11 +6,21 @@ final class Checks {
     }
 
     private final String title;
+    private String heading = "";
     private int made;
     private int wrong;
 
     Checks(String title) {
         this.title = title;
+    }
+
+    /** Sets what stands before each answer that is not as due from now on. */
+    void under(String newHeading) {
+        heading = newHeading + ": ";
+    }
+
+    int made() {
+        return made;
     }
 
     /** The answer of a call, told as a text, or the name of what it throws. */
@@ -31,7 +41,8 @@ final class Checks {
         }
         wrong++;
         if (wrong <= 20) {
-            System.out.println(title + ": " + what + " answered " + got + ", due is " + want);
+            System.out.println(title + ": " + heading + what + " answered " + got
+                    + ", due is " + want);
         }
         return false;
     }
