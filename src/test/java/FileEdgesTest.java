@@ -183,6 +183,15 @@ public final class FileEdgesTest {
         f.encode(0);
         CHECKS.due("one of three", "22 0 31 0 0 6 0 1 0 2 0 4 0 1 2 0 3 0",
                 () -> Forges.bytesFrom(f, 18));
+        RasterForge last = Forges.picture(1, 2, 97, 2, 2);
+        last.set(0, 0, 0, 772);
+        for (int s = 0; s <= 1; s++) {
+            int scheme = s;
+            last.encode(scheme);
+            CHECKS.due("the last line is empty", "16 0 21 0 0 2 0 4 3 1 0 0",
+                    () -> Forges.bytesFrom(last, 12));
+            CHECKS.due("the last line is read", scheme, last::decode);
+        }
         RasterForge g = Forges.picture(1, 3, 97, 0, 2);
         g.set(0, 0, 2, 1);
         for (int s = 0; s <= 1; s++) {

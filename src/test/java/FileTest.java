@@ -22,15 +22,6 @@ public final class FileTest {
         CHECKS.finish();
     }
 
-    private static RasterForge picture(int width, int height, int... channels) {
-        RasterForge f = new RasterForge();
-        f.begin(width, height);
-        for (int k = 0; k < channels.length; k += 3) {
-            f.channel(channels[k], channels[k + 1], channels[k + 2]);
-        }
-        return f;
-    }
-
     private static void holds(String what, RasterForge f, int start, int... bytes) {
         for (int k = 0; k < bytes.length; k++) {
             int at = start + k;
@@ -47,7 +38,7 @@ public final class FileTest {
     }
 
     private static void plainWithSteps() {
-        RasterForge f = picture(3, 3, 98, 0, 2);
+        RasterForge f = Forges.picture(3, 3, 98, 0, 2);
         f.set(0, 2, 2, 1);
         CHECKS.due("steps: length", 35, () -> f.encode(0));
         holds("steps", f, 5, 3, 3, 0, 1, 98, 0, 2, 18, 0, 25, 0, 28, 0,
@@ -57,7 +48,7 @@ public final class FileTest {
     }
 
     private static void plainFloat() {
-        RasterForge f = picture(2, 1, 97, 1, 1, 99, 2, 1);
+        RasterForge f = Forges.picture(2, 1, 97, 1, 1, 99, 2, 1);
         f.set(0, 1, 0, 0.1);
         f.set(1, 0, 0, 258);
         CHECKS.due("float: length", 32, () -> f.encode(0));
@@ -66,7 +57,7 @@ public final class FileTest {
     }
 
     private static void packed() {
-        RasterForge f = picture(8, 1, 97, 2, 1);
+        RasterForge f = Forges.picture(8, 1, 97, 2, 1);
         CHECKS.due("zeros packed: length", 21, () -> f.encode(1));
         holds("zeros packed", f, 7, 1, 1, 97, 2, 1, 14, 0, 0, 4, 0, 255, 0, 14, 128);
         for (int x = 0; x < 8; x++) {
@@ -77,24 +68,24 @@ public final class FileTest {
     }
 
     private static void packedOrRaw() {
-        RasterForge f = picture(2, 1, 97, 2, 1);
+        RasterForge f = Forges.picture(2, 1, 97, 2, 1);
         // 0, 128, 128, 128 in runs: 255, 0, 2, 128, which is not fewer than 4.
         CHECKS.due("as many: length", 21, () -> f.encode(1));
         holds("as many are raw", f, 14, 0, 4, 0, 0, 0, 0, 0);
-        RasterForge g = picture(3, 1, 97, 2, 1);
+        RasterForge g = Forges.picture(3, 1, 97, 2, 1);
         CHECKS.due("fewer: length", 21, () -> g.encode(1));
         holds("fewer are packed", g, 14, 0, 4, 0, 255, 0, 4, 128);
     }
 
     /** 192 bytes of 0: a first one, then 191 alike, of which a run takes 128. */
     private static void longRuns() {
-        RasterForge f = picture(8, 4, 97, 2, 1, 98, 2, 1, 99, 2, 1);
+        RasterForge f = Forges.picture(8, 4, 97, 2, 1, 98, 2, 1, 99, 2, 1);
         CHECKS.due("long runs: length", 18 + 2 + 3 + 6, () -> f.encode(2));
         holds("long runs", f, 18, 20, 0, 0, 6, 0, 255, 0, 127, 128, 62, 128);
     }
 
     private static void cutFloats() {
-        RasterForge f = picture(1, 1, 97, 1, 1);
+        RasterForge f = Forges.picture(1, 1, 97, 1, 1);
         f.set(0, 0, 0, 1 + 0x1p-16);
         CHECKS.due("cut up: length", 20, () -> f.encode(2));
         holds("cut up", f, 14, 0, 3, 0, 1, 0x80, 0x3F);
@@ -111,7 +102,7 @@ public final class FileTest {
 
     /** A float so great that rounding up would leave the numbers is cut without it. */
     private static void cutGreatest() {
-        RasterForge f = picture(1, 1, 97, 1, 1);
+        RasterForge f = Forges.picture(1, 1, 97, 1, 1);
         f.encode(0);
         int[] greatest = {0xFF, 0xFF, 0x7F, 0xFF};
         for (int k = 0; k < 4; k++) {
@@ -126,7 +117,7 @@ public final class FileTest {
     }
 
     private static void cutDifferences() {
-        RasterForge f = picture(8, 1, 97, 2, 1);
+        RasterForge f = Forges.picture(8, 1, 97, 2, 1);
         for (int x = 0; x < 8; x++) {
             f.set(0, x, 0, 10 * (x + 1));
         }
@@ -138,18 +129,18 @@ public final class FileTest {
 
     /** Each square of zeros becomes 32768, 49152 above 32768, 32768. */
     private static void waves() {
-        RasterForge f = picture(4, 2, 97, 2, 1);
+        RasterForge f = Forges.picture(4, 2, 97, 2, 1);
         CHECKS.due("waves: length", 29, () -> f.encode(3));
         holds("waves", f, 12, 14, 0, 0, 12, 0,
                 255, 0, 6, 128, 251, 0, 192, 64, 192, 64, 2, 128);
-        RasterForge g = picture(2, 2, 97, 2, 1);
+        RasterForge g = Forges.picture(2, 2, 97, 2, 1);
         g.set(0, 1, 1, 5);
         CHECKS.due("waves that are not fewer: length", 25, () -> g.encode(3));
         holds("raw and no waves", g, 14, 0, 8, 0, 0, 0, 0, 0, 0, 0, 5, 0);
     }
 
     private static void tallChunks() {
-        RasterForge f = picture(1, 6, 97, 0, 1, 98, 2, 2);
+        RasterForge f = Forges.picture(1, 6, 97, 0, 1, 98, 2, 2);
         f.set(0, 0, 5, 1);
         f.set(1, 0, 4, 3);
         // Four lines and two; the channels take turns in each line.
@@ -161,7 +152,7 @@ public final class FileTest {
 
     /** 384 bytes, which no scheme makes fewer where all are unlike. */
     private static void greatestChunk() {
-        RasterForge f = picture(8, 4, 97, 1, 1, 98, 1, 1, 99, 1, 1);
+        RasterForge f = Forges.picture(8, 4, 97, 1, 1, 98, 1, 1, 99, 1, 1);
         CHECKS.due("384 zeros: length", 18 + 2 + 3 + 8, () -> f.encode(2));
         holds("288 cut zeros", f, 20, 0, 8, 0, 255, 0, 127, 128, 127, 128, 30, 128);
         for (int k = 0; k < 96; k++) {

@@ -54,9 +54,12 @@ final class Forges {
     /** All bits of a channel line by line, as a text. */
     static String bitsOf(RasterForge f, int c) {
         StringJoiner text = new StringJoiner(" ");
-        int step = f.count(30 + c);
-        for (int y = 0; y < f.count(1); y += step) {
-            for (int x = 0; x < f.count(0); x += step) {
+        // A step that is wrong must fail a test and not keep it from ending.
+        int step = Math.max(1, f.count(30 + c));
+        int width = f.count(0);
+        int height = f.count(1);
+        for (int y = 0; y < height; y += step) {
+            for (int x = 0; x < width; x += step) {
                 text.add(String.valueOf(f.bits(c, x, y)));
             }
         }

@@ -134,6 +134,29 @@ public final class PromiseEdgesTest {
         }
     }
 
+    /** The last chunk of a file is at fault, after a picture that was itself read. */
+    @Says("A call that throws changes nothing but where().")
+    static void nothingChangesBehindAReading() {
+        for (int s = 0; s <= 3; s++) {
+            int scheme = s;
+            RasterForge f = Forges.picture(2, 5, 97, 0, 1);
+            f.set(0, 0, 0, 7);
+            f.encode(scheme);
+            f.decode();
+            f.decode();
+            f.set(0, 0, 0, 9);
+            f.set(0, 1, 4, 8);
+            f.channel(98, 2, 1);
+            int length = f.file(-1);
+            f.patch(length, 0);
+            String before = Forges.stateOf(f);
+            CHECKS.dueIllegal("scheme " + s, f::decode);
+            CHECKS.due("scheme " + s + ": where", length, f::where);
+            CHECKS.due("scheme " + s + ": what stays", before, () -> Forges.stateOf(f));
+            CHECKS.due("scheme " + s + ": the sample", 9.0, () -> f.get(0, 0, 0));
+        }
+    }
+
     @Says("A new PICTURE with this width and height, without CHANNELS: width times height.")
     static void begins() {
         RasterForge f = withFault();
@@ -538,6 +561,11 @@ public final class PromiseEdgesTest {
         CHECKS.due("zeros", 0.0, () -> f.spread(0, 0));
         CHECKS.due("zeros, and -0", 0.0, () -> f.spread(0, -0.0));
         CHECKS.due("zeros, and below 0", 2.5, () -> f.spread(0, -2.5));
+        CHECKS.due("zeros, and an eighth", 0.125, () -> f.spread(0, 0.125));
+        CHECKS.due("zeros, and the least", Double.MIN_VALUE,
+                () -> f.spread(1, Double.MIN_VALUE));
+        CHECKS.due("zeros, and the least below 0", Double.MIN_VALUE,
+                () -> f.spread(2, -Double.MIN_VALUE));
         // Samples alone count: those off the step are no zeros.
         for (int k = 0; k < 4; k++) {
             f.set(0, k % 2 * 2, k / 2 * 2, 5 + k);

@@ -37,14 +37,6 @@ public final class ReaderTest {
         return f;
     }
 
-    /** Patches bytes in pairs of place and byte. */
-    private static RasterForge with(RasterForge f, int... patches) {
-        for (int k = 0; k < patches.length; k += 2) {
-            f.patch(patches[k], patches[k + 1]);
-        }
-        return f;
-    }
-
     private static void faultAt(String what, int offset, RasterForge f) {
         CHECKS.dueIllegal(what, f::decode);
         CHECKS.due(what + ": where", offset, f::where);
@@ -99,7 +91,7 @@ public final class ReaderTest {
     }
 
     private static void pictureStays() {
-        RasterForge f = with(plainFile(), 29, 60);
+        RasterForge f = Forges.with(plainFile(), 29, 60);
         f.begin(3, 3);
         f.channel(122, 2, 1);
         f.set(0, 2, 2, 77);
@@ -117,65 +109,65 @@ public final class ReaderTest {
 
     private static void head() {
         for (int k = 0; k < 4; k++) {
-            faultAt("magic " + k, k, with(plainFile(), k, 2));
+            faultAt("magic " + k, k, Forges.with(plainFile(), k, 2));
         }
-        faultAt("magic before version", 0, with(plainFile(), 0, 0, 4, 9));
-        unknownAt("version 3", 4, with(plainFile(), 4, 3));
-        unknownAt("version 1, width 0", 4, with(plainFile(), 4, 1, 5, 0));
+        faultAt("magic before version", 0, Forges.with(plainFile(), 0, 0, 4, 9));
+        unknownAt("version 3", 4, Forges.with(plainFile(), 4, 3));
+        unknownAt("version 1, width 0", 4, Forges.with(plainFile(), 4, 1, 5, 0));
         for (int k = 5; k <= 6; k++) {
-            faultAt("side 0", k, with(plainFile(), k, 0));
-            faultAt("side 9", k, with(plainFile(), k, 9));
+            faultAt("side 0", k, Forges.with(plainFile(), k, 0));
+            faultAt("side 9", k, Forges.with(plainFile(), k, 9));
         }
-        faultAt("height before scheme", 6, with(plainFile(), 6, 0, 7, 4));
-        unknownAt("scheme 4", 7, with(plainFile(), 7, 4));
-        unknownAt("scheme 255", 7, with(plainFile(), 7, 255, 8, 0));
-        faultAt("no channels", 8, with(plainFile(), 8, 0));
-        faultAt("4 channels", 8, with(plainFile(), 8, 4));
-        faultAt("letter 96", 9, with(plainFile(), 9, 96));
-        faultAt("letter 123", 9, with(plainFile(), 9, 123));
-        faultAt("type 3", 10, with(plainFile(), 10, 3));
-        faultAt("step 0", 11, with(plainFile(), 11, 0));
-        faultAt("step 3", 11, with(plainFile(), 11, 3));
-        faultAt("the same letter", 12, with(plainFile(), 12, 97));
-        faultAt("a letter before", 12, with(plainFile(), 9, 100));
-        faultAt("second letter 123", 12, with(plainFile(), 12, 123));
-        faultAt("second type 3", 13, with(plainFile(), 13, 3));
-        faultAt("second step 0", 14, with(plainFile(), 14, 0));
+        faultAt("height before scheme", 6, Forges.with(plainFile(), 6, 0, 7, 4));
+        unknownAt("scheme 4", 7, Forges.with(plainFile(), 7, 4));
+        unknownAt("scheme 255", 7, Forges.with(plainFile(), 7, 255, 8, 0));
+        faultAt("no channels", 8, Forges.with(plainFile(), 8, 0));
+        faultAt("4 channels", 8, Forges.with(plainFile(), 8, 4));
+        faultAt("letter 96", 9, Forges.with(plainFile(), 9, 96));
+        faultAt("letter 123", 9, Forges.with(plainFile(), 9, 123));
+        faultAt("type 3", 10, Forges.with(plainFile(), 10, 3));
+        faultAt("step 0", 11, Forges.with(plainFile(), 11, 0));
+        faultAt("step 3", 11, Forges.with(plainFile(), 11, 3));
+        faultAt("the same letter", 12, Forges.with(plainFile(), 12, 97));
+        faultAt("a letter before", 12, Forges.with(plainFile(), 9, 100));
+        faultAt("second letter 123", 12, Forges.with(plainFile(), 12, 123));
+        faultAt("second type 3", 13, Forges.with(plainFile(), 13, 3));
+        faultAt("second step 0", 14, Forges.with(plainFile(), 14, 0));
     }
 
     private static void table() {
         for (int k = 15; k < 25; k += 2) {
             int low = k;
             RasterForge f = plainFile();
-            faultAt("offset one more", low, with(f, low, f.file(low) + 1));
-            faultAt("offset 256 more", low, with(plainFile(), low + 1, 1));
+            faultAt("offset one more", low, Forges.with(f, low, f.file(low) + 1));
+            faultAt("offset 256 more", low, Forges.with(plainFile(), low + 1, 1));
         }
-        faultAt("the first of two", 17, with(plainFile(), 17, 0, 21, 0));
-        faultAt("the table before the chunks", 23, with(plainFile(), 25, 9, 23, 0));
-        faultAt("a size makes the next offset wrong", 17, with(plainFile(), 26, 7));
-        faultAt("so does a later one", 21, with(plainFile(), 44, 9));
+        faultAt("the first of two", 17, Forges.with(plainFile(), 17, 0, 21, 0));
+        faultAt("the table before the chunks", 23, Forges.with(plainFile(), 25, 9, 23, 0));
+        faultAt("a size makes the next offset wrong", 17, Forges.with(plainFile(), 26, 7));
+        faultAt("so does a later one", 21, Forges.with(plainFile(), 44, 9));
     }
 
     /** Behind a chunk that is not wholly there the offsets are not looked at. */
     private static void lostChunks() {
-        RasterForge f = with(plainFile(), 21, 99, 23, 99);
+        RasterForge f = Forges.with(plainFile(), 21, 99, 23, 99);
         f.cut(50);
         faultAt("others behind a cut chunk", 50, f);
-        RasterForge g = with(plainFile(), 19, 44);
+        RasterForge g = Forges.with(plainFile(), 19, 44);
         g.cut(50);
         faultAt("the cut chunk's own offset", 19, g);
-        RasterForge h = with(plainFile(), 19, 44);
+        RasterForge h = Forges.with(plainFile(), 19, 44);
         h.cut(45);
         faultAt("the offset of a chunk whose size is cut", 19, h);
-        RasterForge i = with(plainFile(), 21, 99);
+        RasterForge i = Forges.with(plainFile(), 21, 99);
         i.cut(45);
         faultAt("behind a chunk whose size is cut", 45, i);
-        faultAt("a size beyond the file", 26, with(plainFile(), 27, 255, 17, 0, 23, 0));
-        faultAt("the first offset is looked at", 15, with(plainFile(), 27, 255, 15, 0));
-        RasterForge j = with(plainFile(), 17, 0);
+        faultAt("a size beyond the file", 26, Forges.with(plainFile(), 27, 255, 17, 0, 23, 0));
+        faultAt("the first offset is looked at", 15, Forges.with(plainFile(), 27, 255, 15, 0));
+        RasterForge j = Forges.with(plainFile(), 17, 0);
         j.cut(20);
         faultAt("no chunk is there", 20, j);
-        RasterForge k = with(plainFile(), 15, 0);
+        RasterForge k = Forges.with(plainFile(), 15, 0);
         k.cut(20);
         faultAt("but the first offset is", 15, k);
     }
@@ -183,18 +175,18 @@ public final class ReaderTest {
     private static void chunks() {
         int[] starts = {25, 36, 43, 54, 61};
         for (int y = 0; y < 5; y++) {
-            faultAt("line of chunk " + y, starts[y], with(plainFile(), starts[y], 5));
+            faultAt("line of chunk " + y, starts[y], Forges.with(plainFile(), starts[y], 5));
         }
-        faultAt("a plain size that is less", 26, with(plainFile(), 26, 7, 17, 35));
-        faultAt("the last plain size, less", 62, with(plainFile(), 62, 7));
-        faultAt("the last plain size, more", 62, with(plainFile(), 62, 9));
-        RasterForge f = with(plainFile(), 62, 9, 72, 0);
+        faultAt("a plain size that is less", 26, Forges.with(plainFile(), 26, 7, 17, 35));
+        faultAt("the last plain size, less", 62, Forges.with(plainFile(), 62, 7));
+        faultAt("the last plain size, more", 62, Forges.with(plainFile(), 62, 9));
+        RasterForge f = Forges.with(plainFile(), 62, 9, 72, 0);
         faultAt("the last plain size, more, with the byte", 62, f);
-        faultAt("a byte left", 72, with(plainFile(), 72, 0));
-        faultAt("two bytes left", 72, with(plainFile(), 72, 0, 73, 0));
-        faultAt("a packed size that is more", 15, with(packedFile(), 15, 17));
-        faultAt("a packed size that is far more", 15, with(packedFile(), 16, 1));
-        faultAt("a byte left behind runs", 21, with(packedFile(), 21, 0));
+        faultAt("a byte left", 72, Forges.with(plainFile(), 72, 0));
+        faultAt("two bytes left", 72, Forges.with(plainFile(), 72, 0, 73, 0));
+        faultAt("a packed size that is more", 15, Forges.with(packedFile(), 15, 17));
+        faultAt("a packed size that is far more", 15, Forges.with(packedFile(), 16, 1));
+        faultAt("a byte left behind runs", 21, Forges.with(packedFile(), 21, 0));
     }
 
     private static void missingBytes() {
@@ -211,39 +203,39 @@ public final class ReaderTest {
     }
 
     private static void noNumbers() {
-        faultAt("a half", 25, with(plainFile(), 29, 124));
-        faultAt("a half below 0", 25, with(plainFile(), 29, 255));
-        reads("the greatest half", 0, with(plainFile(), 28, 255, 29, 123));
-        faultAt("a float", 25, with(plainFile(), 34, 128, 35, 127));
-        faultAt("a float below 0", 43, with(plainFile(), 52, 255, 53, 255));
-        reads("the greatest float", 0, with(plainFile(), 34, 127, 35, 127));
-        faultAt("a later line", 61, with(plainFile(), 65, 124));
-        faultAt("bits before the next chunk", 25, with(plainFile(), 29, 124, 36, 9));
-        RasterForge f = with(plainFile(), 29, 128, 35, 128);
+        faultAt("a half", 25, Forges.with(plainFile(), 29, 124));
+        faultAt("a half below 0", 25, Forges.with(plainFile(), 29, 255));
+        reads("the greatest half", 0, Forges.with(plainFile(), 28, 255, 29, 123));
+        faultAt("a float", 25, Forges.with(plainFile(), 34, 128, 35, 127));
+        faultAt("a float below 0", 43, Forges.with(plainFile(), 52, 255, 53, 255));
+        reads("the greatest float", 0, Forges.with(plainFile(), 34, 127, 35, 127));
+        faultAt("a later line", 61, Forges.with(plainFile(), 65, 124));
+        faultAt("bits before the next chunk", 25, Forges.with(plainFile(), 29, 124, 36, 9));
+        RasterForge f = Forges.with(plainFile(), 29, 128, 35, 128);
         reads("-0", 0, f);
         CHECKS.due("half -0 is told as 0", 0.0, () -> f.get(0, 0, 0));
         CHECKS.due("half -0 keeps its bits", 32768, () -> f.bits(0, 0, 0));
         CHECKS.due("float -0 is told as 0", 0.0, () -> f.get(1, 0, 0));
         CHECKS.due("float -0 keeps its bits", Integer.MIN_VALUE, () -> f.bits(1, 0, 0));
-        RasterForge w = with(packedFile(), 17, 255, 18, 255);
+        RasterForge w = Forges.with(packedFile(), 17, 255, 18, 255);
         reads("wholes are all numbers", 1, w);
         CHECKS.due("whole of all bits", 65535, () -> w.bits(0, 0, 0));
         RasterForge c = new RasterForge();
         c.begin(1, 1);
         c.channel(97, 1, 1);
         c.encode(2);
-        faultAt("a cut float", 14, with(c, 18, 128, 19, 127));
+        faultAt("a cut float", 14, Forges.with(c, 18, 128, 19, 127));
     }
 
     private static void runs() {
-        faultAt("a run makes too many", 19, with(packedFile(), 19, 15));
-        faultAt("runs make too few", 21, with(packedFile(), 19, 13));
-        faultAt("a run takes too many", 17, with(packedFile(), 17, 252));
-        faultAt("the second run takes too many", 19, with(packedFile(), 19, 254));
-        faultAt("the third run takes too many", 20, with(packedFile(), 17, 254));
-        faultAt("a run of no byte", 21, with(packedFile(), 15, 5, 21, 0));
-        faultAt("a run more", 21, with(packedFile(), 15, 6, 21, 0, 22, 7));
-        RasterForge none = with(packedFile(), 15, 0);
+        faultAt("a run makes too many", 19, Forges.with(packedFile(), 19, 15));
+        faultAt("runs make too few", 21, Forges.with(packedFile(), 19, 13));
+        faultAt("a run takes too many", 17, Forges.with(packedFile(), 17, 252));
+        faultAt("the second run takes too many", 19, Forges.with(packedFile(), 19, 254));
+        faultAt("the third run takes too many", 20, Forges.with(packedFile(), 17, 254));
+        faultAt("a run of no byte", 21, Forges.with(packedFile(), 15, 5, 21, 0));
+        faultAt("a run more", 21, Forges.with(packedFile(), 15, 6, 21, 0, 22, 7));
+        RasterForge none = Forges.with(packedFile(), 15, 0);
         none.cut(17);
         faultAt("no runs", 17, none);
         RasterForge f = new RasterForge();
@@ -252,12 +244,12 @@ public final class ReaderTest {
         f.channel(99, 0, 2);
         f.encode(3);
         int second = f.file(17);
-        faultAt("a run in the second chunk", second + 3, with(f, second + 3, 200));
+        faultAt("a run in the second chunk", second + 3, Forges.with(f, second + 3, 200));
     }
 
     /** Runs that encode would not write, but that are as said. */
     private static void runsThatFit() {
-        reads("a run of one", 1, with(packedFile(), 15, 6, 19, 13, 21, 0, 22, 128));
+        reads("a run of one", 1, Forges.with(packedFile(), 15, 6, 19, 13, 21, 0, 22, 128));
         RasterForge f = new RasterForge();
         f.begin(8, 4);
         f.channel(97, 2, 1);
@@ -265,15 +257,15 @@ public final class ReaderTest {
         f.channel(99, 2, 1);
         f.encode(3);
         f.cut(20);
-        with(f, 20, 0, 21, 131, 22, 0, 23, 128);
+        Forges.with(f, 20, 0, 21, 131, 22, 0, 23, 128);
         for (int k = 0; k < 128; k++) {
             f.patch(24 + k, k);
         }
-        with(f, 152, 63, 153, 128);
+        Forges.with(f, 152, 63, 153, 128);
         reads("128 unlike", 3, f);
         // 192 differences of -128: the sorted bytes are 0 and 128 in turn.
         f.cut(20);
-        with(f, 20, 0, 21, 4, 22, 0, 23, 127, 24, 0, 25, 63, 26, 0, 7, 2);
+        Forges.with(f, 20, 0, 21, 4, 22, 0, 23, 127, 24, 0, 25, 63, 26, 0, 7, 2);
         reads("128 alike", 2, f);
         CHECKS.due("the first", 0, () -> f.bits(0, 0, 0));
         CHECKS.due("the second", 32768 + 128, () -> f.bits(0, 1, 0));
@@ -311,7 +303,7 @@ public final class ReaderTest {
             f.encode(scheme);
             CHECKS.due("length", 24, () -> f.file(-1));
             reads("an empty line", scheme, f);
-            faultAt("a byte in an empty line", 22, with(f, 22, 1, 24, 0));
+            faultAt("a byte in an empty line", 22, Forges.with(f, 22, 1, 24, 0));
         }
     }
 }

@@ -62,8 +62,8 @@ public final class ReadingEdgesTest {
             {7, 4, 7}, {8, 4, 8}, {9, 96, 9}, {10, 3, 10}, {11, 0, 11}, {12, 97, 12},
             {13, 255, 13}, {14, 3, 14}, {15, 24, 15}, {18, 1, 17}, {19, 44, 19}, {21, 0, 21},
             {24, 255, 23}, {25, 1, 25}, {29, 124, 25}, {36, 0, 36}, {40, 255, 36}, {43, 255, 43},
-            {52, 128, -2}, {47, 124, 43}, {54, 2, 54}, {58, 252, 54}, {61, 5, 61}, {62, 7, 62},
-            {65, 124, 61}, {72, 0, 72},
+            {47, 124, 43}, {54, 2, 54}, {58, 252, 54}, {61, 5, 61}, {62, 7, 62}, {65, 124, 61},
+            {72, 0, 72},
         };
     }
 
@@ -71,19 +71,37 @@ public final class ReadingEdgesTest {
     static void firstFaultCounts() {
         int[][] faults = faultsInOrder();
         for (int i = 0; i < faults.length; i++) {
+            faultOf(faults[i], Forges.with(plainFile(), faults[i][0], faults[i][1]));
             for (int j = i + 1; j < faults.length; j++) {
-                int[] first = faults[i][2] < 0 ? faults[j] : faults[i];
-                RasterForge f = Forges.with(plainFile(),
-                        faults[i][0], faults[i][1], faults[j][0], faults[j][1]);
-                String what = "bytes " + faults[i][0] + " and " + faults[j][0];
-                if (first[2] == 4 || first[2] == 7) {
-                    unknownAt(what, first[2], f);
-                } else if (first[2] < 0) {
-                    reads(what, 0, f);
-                } else {
-                    faultAt(what, first[2], f);
-                }
+                faultOf(faults[i], Forges.with(plainFile(),
+                        faults[i][0], faults[i][1], faults[j][0], faults[j][1]));
             }
+        }
+    }
+
+    /** The same for runs: a file of 30 bytes with lines at 16 and 23, four packed bytes each. */
+    @Says("READING goes from OFFSET 0 on; the first FAULT counts,")
+    static void firstPackedFaultCounts() {
+        int[][] faults = {{12, 0, 12}, {14, 0, 14}, {16, 5, 16}, {19, 252, 19}, {21, 15, 21},
+            {21, 13, 23}, {20, 124, 16}, {23, 0, 23}, {24, 17, 24}, {26, 252, 26}, {28, 15, 28},
+            {28, 13, 30}, {27, 124, 23}, {30, 0, 30}};
+        for (int i = 0; i < faults.length; i++) {
+            for (int j = i; j < faults.length; j++) {
+                RasterForge f = Forges.picture(8, 2, 97, 0, 1);
+                f.encode(1);
+                // Where both are of one byte, the first alone is left.
+                faultOf(faults[i], Forges.with(f,
+                        faults[j][0], faults[j][1], faults[i][0], faults[i][1]));
+            }
+        }
+    }
+
+    private static void faultOf(int[] fault, RasterForge f) {
+        String what = "first at fault is byte " + fault[0];
+        if (fault[2] == 4 || fault[2] == 7) {
+            unknownAt(what, fault[2], f);
+        } else {
+            faultAt(what, fault[2], f);
         }
     }
 
@@ -188,6 +206,9 @@ public final class ReadingEdgesTest {
                 noFaultAt(b + " channels", 8, f);
             }
         }
+        // The rest would be a table and a line for none.
+        faultAt("10 channels", 8,
+                Forges.adding(new RasterForge(), 118, 47, 49, 1, 2, 1, 1, 0, 10, 0, 0, 0, 0));
     }
 
     @Says("how many CHANNELS, each LETTER, TYPE, STEP;")
@@ -305,6 +326,9 @@ public final class ReadingEdgesTest {
                 }
             }
         }
+        RasterForge empty = Forges.picture(1, 3, 97, 2, 2);
+        empty.encode(1);
+        faultAt("y 0 of a line without bytes", 23, Forges.with(empty, 23, 0));
         for (int scheme = 1; scheme <= 3; scheme++) {
             RasterForge f = bigFile(scheme);
             int second = f.file(20) + 256 * f.file(21);
@@ -370,6 +394,12 @@ public final class ReadingEdgesTest {
         faultAt("plain: one is missing", 71, Forges.cutTo(plainFile(), 71));
         faultAt("plain: all are missing", 64, Forges.cutTo(plainFile(), 64));
         faultAt("plain: half a size", 63, Forges.cutTo(plainFile(), 63));
+        faultAt("plain: half a size that is less", 63,
+                Forges.cutTo(Forges.with(plainFile(), 62, 7), 63));
+        faultAt("plain: half a size that is more", 63,
+                Forges.cutTo(Forges.with(plainFile(), 62, 9), 63));
+        faultAt("packed: half a size that is more", 16,
+                Forges.cutTo(Forges.with(packedFile(), 15, 17), 16));
         faultAt("packed: one is missing", 20, Forges.cutTo(packedFile(), 20));
         faultAt("packed: a size of one more", 21, Forges.with(packedFile(), 15, 5));
         faultAt("packed: a size as great as raw", 21, Forges.with(packedFile(), 15, 16));
@@ -416,6 +446,17 @@ public final class ReadingEdgesTest {
         reads("128 makes 128", 2, runs(2, run(128, 128, 63, 128)));
         reads("129 makes 127", 2, runs(2, run(129, 127, 64, 128)));
         reads("255 makes one", 2, runs(2, 255, 128, 127, 128, 62, 128));
+        int[] unlike = run(128, 128, 63, 128);
+        unlike[1] = 5;
+        unlike[2] = 129;
+        unlike[128] = 130;
+        RasterForge g = runs(2, unlike);
+        reads("128 of many kinds", 2, g);
+        // 6 from the second of 96 even places on, 8 from the 32nd of the odd ones on.
+        CHECKS.due("128 of many kinds: the first", "1541 3083",
+                () -> g.bits(0, 0, 0) + " " + g.bits(0, 1, 0));
+        CHECKS.due("128 of many kinds: from its last on", "10794 12848",
+                () -> g.bits(0, 6, 1) + " " + g.bits(0, 7, 1));
         faultAt("128 makes no 127", 152, runs(2, run(128, 128, 64, 128)));
         faultAt("128 makes no 129", 154, runs(2, run(128, 128, 62, 128)));
         RasterForge f = runs(2, 254, 5, 129, 127, 128, 61, 128);
