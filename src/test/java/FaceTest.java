@@ -32,6 +32,7 @@ public final class FaceTest {
         checks.due("visible fields", "[]", () -> visibleFields(face));
         checks.due("static fields that are not final", "[]", () -> looseStatics(face));
         checks.due("nested classes that are not static", "[]", () -> innerClasses(face));
+        checks.due("hidden methods with a name of the face", "[]", () -> borrowedNames(face));
         checks.finish();
     }
 
@@ -81,6 +82,27 @@ public final class FaceTest {
         }
         for (Class<?> inner : face.getDeclaredClasses()) {
             found.addAll(looseStatics(inner));
+        }
+        return found;
+    }
+
+    private static TreeSet<String> borrowedNames(Class<?> face) {
+        TreeSet<String> names = new TreeSet<>();
+        for (String method : FACE) {
+            names.add(method.substring(method.indexOf(' ') + 1, method.indexOf('(')));
+        }
+        TreeSet<String> found = new TreeSet<>();
+        for (Method m : face.getDeclaredMethods()) {
+            if (!Modifier.isPublic(m.getModifiers()) && names.contains(m.getName())) {
+                found.add(m.getName());
+            }
+        }
+        for (Class<?> inner : face.getDeclaredClasses()) {
+            for (Method m : inner.getDeclaredMethods()) {
+                if (names.contains(m.getName())) {
+                    found.add(inner.getSimpleName() + "." + m.getName());
+                }
+            }
         }
         return found;
     }
