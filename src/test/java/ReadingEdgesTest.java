@@ -131,6 +131,16 @@ public final class ReadingEdgesTest {
         }
     }
 
+    /** 826 bytes, so that offsets have an upper byte too. */
+    @Says("or, where BYTES are missing, behind the last one:")
+    static void missingBytesOfTheGreatestFile() {
+        for (int n = 0; n < 826; n++) {
+            RasterForge f = Forges.picture(8, 8, 97, 1, 1, 98, 1, 1, 99, 1, 1);
+            f.encode(0);
+            faultAt("the first " + n, n, Forges.cutTo(f, n));
+        }
+    }
+
     /** A version or scheme that is not there is missing, and not unknown. */
     @Says("or, where BYTES are missing, behind the last one:")
     static void missingIsNotUnknown() {
