@@ -519,7 +519,8 @@ public final class RasterForge {
             }
             to.clear();
             int place = 0;
-            while (place < sorted.length) {
+            // A run packs a byte or more, so there are no more runs than bytes.
+            for (int run = 0; run < MOST_RAW && place < sorted.length; run++) {
                 int alike = alikeFrom(place);
                 if (alike >= LEAST_ALIKE) {
                     to.add(alike - 1);
@@ -867,9 +868,9 @@ public final class RasterForge {
             if (!readHead(to) || !readChannels(to) || !readTable(to)) {
                 return false;
             }
-            int lines = linesOfChunk(scheme);
-            for (int first = 0; first < to.height; first += lines) {
-                if (!readChunk(first, to, coder)) {
+            int chunks = to.chunks(scheme);
+            for (int k = 0; k < chunks; k++) {
+                if (!readChunk(k * linesOfChunk(scheme), to, coder)) {
                     return false;
                 }
             }
